@@ -189,6 +189,7 @@ public final class PickDesk {
             }
         }
 
+        /** The item comes to the end, and changes places with its neighbours until it is where it should be. */
         void insert(int place, Value item) {
             add(item);
             for (int i = size - 1; i > place && i > 0; i--) {
@@ -431,7 +432,7 @@ public final class PickDesk {
             return below ? -number : number;
         }
 
-        /** From behind the first ' to behind the second. */
+        /** What stands between two ' : the reader has taken the first one, as it tells a text by it. */
         String readQuoted() {
             scratch.setLength(0);
             for (int i = 0; i < MOST_IN_TEXT && here() != '\'' && here() != END; i++) {
@@ -538,7 +539,7 @@ public final class PickDesk {
         }
     }
 
-    /** One step. All that project but .* are told as slices, with a condition or without. */
+    /** One step. All that project go over their elements as a slice does: if nothing else is said, over all of them. */
     private static final class Step {
         private static final int KEY = 0;
         private static final int INDEX = 1;
@@ -790,7 +791,9 @@ public final class PickDesk {
             if (text.take(':') && Text.startsNumber(text.here())) {
                 by = readSliceStep();
             }
-            return Step.ofSlice(fromSaid ? from : by > 0 ? 0 : FAR, endSaid ? end : by > 0 ? FAR : -FAR, by);
+            int first = by > 0 ? 0 : FAR;
+            int last = by > 0 ? FAR : -FAR;
+            return Step.ofSlice(fromSaid ? from : first, endSaid ? end : last, by);
         }
 
         private int readSliceStep() {
