@@ -66,9 +66,9 @@ public final class Promise3LoadTest {
     }
 
     private static void checkLongTexts(Checks checks) {
-        String most = "[" + Checks.repeat("n,", 78) + "n]";
+        String most = "[" + "n,".repeat(78) + "n]";
         checks.due("79 elements", Checks.load(new PickDesk(), most), 80);
-        checks.due("160 letters without an end", Checks.load(new PickDesk(), "[" + Checks.repeat("1,", 79) + "1"), -161);
+        checks.due("160 letters without an end", Checks.load(new PickDesk(), "[" + "1,".repeat(79) + "1"), -161);
         StringBuilder keys = new StringBuilder("{");
         for (char c = 'a'; c <= 'z'; c++) {
             keys.append(c).append(":").append(c - 'a').append(c == 'z' ? "}" : ",");

@@ -67,9 +67,9 @@ public final class Promise4QueryTest {
     }
 
     private static void checkLongQueries(Checks checks) {
-        checks.due("80 stages", Checks.query(new PickDesk(), Checks.repeat("@|", 79) + "@"), 0);
-        checks.due("160 letters", Checks.query(new PickDesk(), Checks.repeat("@|", 80)), -161);
-        checks.due("26 words", Checks.query(new PickDesk(), Checks.repeat("sum()|", 26) + "@"), 0);
+        checks.due("80 stages", Checks.query(new PickDesk(), "@|".repeat(79) + "@"), 0);
+        checks.due("160 letters", Checks.query(new PickDesk(), "@|".repeat(80)), -161);
+        checks.due("26 words", Checks.query(new PickDesk(), "sum()|".repeat(26) + "@"), 0);
     }
 
     private static void checkTwelve(Checks checks) {
