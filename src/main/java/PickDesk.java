@@ -708,9 +708,7 @@ public final class PickDesk {
             Stage stage = new Stage();
             if (Text.isKeyLetter(text.here())) {
                 readWordOrKey(stage);
-            } else if (text.here() == '[') {
-                readBrackets(stage);
-            } else {
+            } else if (text.here() != '[') {
                 text.must('@');
             }
             for (int i = 0; i < MOST_LETTERS && stage.word == null; i++) {
